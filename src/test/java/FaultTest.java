@@ -10,6 +10,7 @@ public final class FaultTest {
         numbers();
         limits();
         laws();
+        cutTexts();
         whatStays();
         check.close("FaultTest");
     }
@@ -261,6 +262,35 @@ public final class FaultTest {
             nots.append(" and not not not not not not not 1");
         }
         right(0, nots + " pull 1;");
+    }
+
+    /** Fed whole, cut to its first n bytes: what stood behind them must not be seen. */
+    private static void cut(int kind, int place, String text, int n) {
+        BowWalk x = new BowWalk();
+        Check.tape(x, text);
+        check.due("end(" + n + ")", x.end(n), n);
+        check.due("shop() of " + text + " cut to " + n, x.shop(), -1);
+        check.due("fault(0) of " + text + " cut to " + n, x.fault(0), kind);
+        check.due("fault(1) of " + text + " cut to " + n, x.fault(1), place);
+    }
+
+    private static void cutTexts() {
+        check.promise("3 end, 4 shop: cut texts");
+        cut(2, 7, "tight 5a", 7);
+        cut(2, 7, "tight 5;", 7);
+        cut(4, 6, "tight 12345;", 10);
+        cut(2, 13, "knot abcdefghi", 13);
+        cut(2, 7, "knot a over;", 7);
+        cut(3, 17, "knot a over;knot ab over;", 18);
+        StringBuilder full = new StringBuilder("knot a over;");
+        while (full.length() < 1596) {
+            full.append(' ');
+        }
+        faulty(2, full + "^over");
+        faulty(2, full + "^1234");
+        faulty(2, full + "knot^");
+        right(2, full.substring(0, 1587) + "knot b over;\n");
+        right(1, full + "\n\n\n\n");
     }
 
     private static void whatStays() {

@@ -221,6 +221,9 @@ public final class PromiseTest {
         due("OPEN", x.bow(0), 0);
         due("pull(0)", x.pull(0), -1);
         due("bow(4)", x.bow(4), 120);
+        x = Check.shop("knot a over;" + CORD + "tight 5;law l rub 0 - 11 pull 0;");
+        x.tie(0, 0);
+        due("pull(0)", x.pull(0), 2);
         BowWalk y = Check.shop("knot a over;" + CORD + "tight 5;");
         y.tie(0, 0);
         due("untold: rub is tight - strike - smooth", y.pull(5), 0);
@@ -325,6 +328,12 @@ public final class PromiseTest {
         x.tie(0, 0);
         due("like of the innermost is 0", x.walk(0, 1), 2);
         // without LAWS
+        x = Check.shop("knot a over;cord c smooth 0 weight 0 long 100;walk w 5 91;tight 95;");
+        x.tie(0, 0);
+        due("91 above 90", x.walk(0, 1), 1);
+        x = Check.shop("knot a over;cord c smooth 0 weight 0 long 101;walk w 0 99;tight 99;");
+        x.tie(0, 0);
+        due("9999 / 100 is 99, not above 99", x.walk(0, 1), 0);
         x = Check.shop("knot a over under;cord c smooth 10 weight 20 long 55;walk w 30 40;tight 25;");
         x.tie(0, 0);
         due("57: 6, 39: 4", x.walk(0, 1), 10);
@@ -558,6 +567,7 @@ public final class PromiseTest {
                 due("best(2, " + row[0] + ", " + what + ")", x.best(2, 0, 0, row[0], what), row[1 + what]);
             }
         }
+        due("p 0", Check.shop(CORD + "walk w 0 0;tight 7;law l rub 0 - 1 pull 0;").best(1, 0, 0, 0, 1), 7);
         due("best of 1", x.best(1, 0, 0, 10, 0), 0);
         due("best of 1 holds", x.best(1, 0, 0, 10, 1), 5);
         due("best of 6, the innermost over", x.best(6, 0, 0, 10, 0), 42);
@@ -582,6 +592,12 @@ public final class PromiseTest {
         due("CORD -1", x.both(-1, 0), -1);
         due("WALK -1", x.both(0, -1), -1);
         due("no KNOTS", Check.shop(CORD + "walk w 0 0;").both(0, 0), 0);
+        // behind one as long, undone by less; behind one undone by the same, longer
+        x = Check.shop("knot a under under;knot b under;knot c over;knot d under over over;" + CORD
+                + "walk w 0 0;tight 10;law l rub like * 50 + (place = 0) * (long - 5) pull 0;");
+        due("undone", x.undone(0, 0), 60);
+        due("undone", x.undone(1, 0), 20);
+        due("all hold 2000: those undone by the least", x.both(0, 0), 6);
         // g and f hold 2000, nothing undoes them; t is OPEN in 1 STEP, nothing undoes it
         x = Check.shop("knot g over over;knot t over;knot f over over;" + CORD
                 + "walk w 1 0;tight 10;law l rub like * 5000 + (strike = 0) * 990 pull 99;");
