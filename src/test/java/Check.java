@@ -34,6 +34,29 @@ final class Check {
         }
     }
 
+    /** The text up to the sign ^ and behind it: its FAULT is due at that place, and the TAPE stays. */
+    void faulty(int kind, String marked) {
+        int place = marked.indexOf('^');
+        String text = marked.substring(0, place) + marked.substring(place + 1);
+        BowWalk x = new BowWalk();
+        tape(x, text);
+        due("shop() of " + marked, x.shop(), -1);
+        due("fault(0) of " + marked, x.fault(0), kind);
+        due("fault(1) of " + marked, x.fault(1), place);
+        due("about(7) of " + marked, x.about(7), text.length());
+    }
+
+    /** The text has no FAULT and so many KNOTS: a new object with that SHOP. */
+    BowWalk right(int knots, String text) {
+        BowWalk x = new BowWalk();
+        tape(x, text);
+        due("shop() of " + text, x.shop(), knots);
+        due("fault(0) of " + text, x.fault(0), 0);
+        due("fault(1) of " + text, x.fault(1), -1);
+        due("about(7) of " + text, x.about(7), 0);
+        return x;
+    }
+
     /** The text stands on the (till now empty) TAPE. */
     static void tape(BowWalk x, String text) {
         tape(x, text.getBytes(StandardCharsets.ISO_8859_1));

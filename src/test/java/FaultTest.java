@@ -15,25 +15,12 @@ public final class FaultTest {
         check.close("FaultTest");
     }
 
-    /** The text up to the sign ^ and behind it: its FAULT is due at that place. */
     private static void faulty(int kind, String marked) {
-        int place = marked.indexOf('^');
-        String text = marked.substring(0, place) + marked.substring(place + 1);
-        BowWalk x = new BowWalk();
-        Check.tape(x, text);
-        check.due("shop() of " + marked, x.shop(), -1);
-        check.due("fault(0) of " + marked, x.fault(0), kind);
-        check.due("fault(1) of " + marked, x.fault(1), place);
-        check.due("about(7) of " + marked, x.about(7), text.length());
+        check.faulty(kind, marked);
     }
 
     private static BowWalk right(int knots, String text) {
-        BowWalk x = new BowWalk();
-        Check.tape(x, text);
-        check.due("shop() of " + text, x.shop(), knots);
-        check.due("fault(0) of " + text, x.fault(0), 0);
-        check.due("fault(1) of " + text, x.fault(1), -1);
-        return x;
+        return check.right(knots, text);
     }
 
     private static void tape() {

@@ -176,7 +176,7 @@ public final class PromiseTest {
         x = Check.shop(shop + "luck 1;tight 6;");
         x.tie(0, 0);
         x.seed(-1);
-        // w -1103502900, above 16 bits 48698, modulo 3 it is 2: swing 61
+        // w -1103502900, above 16 bits 48697, modulo 3 it is 1: swing 60
         due("walk(0, 3)", x.walk(0, 3), 6);
         due("one draw: it was OPEN behind the first", x.about(8), -1 * 1103515245 + 12345);
         due("pull", x.pull(5), -1);
