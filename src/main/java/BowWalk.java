@@ -991,7 +991,11 @@ public final class BowWalk {
                 case Token.WALK:
                     return beginNamed(Shop.WALKS) && readSteps(draft.count[Shop.WALKS]) && endNamed(Shop.WALKS);
                 case Token.LAW:
-                    return beginNamed(Shop.LAWS) && readLaw() && endNamed(Shop.LAWS);
+                    // written out here: the calls below an e go deep enough
+                    return beginNamed(Shop.LAWS)
+                            && take(Token.RUB) && readAny(0) && draft.laws.endRow()
+                            && take(Token.PULL) && readAny(0) && draft.laws.endRow()
+                            && endNamed(Shop.LAWS);
                 case Token.WANT:
                     return beginNamed(Shop.WANTS) && readWant(draft.count[Shop.WANTS]) && endNamed(Shop.WANTS);
                 case Token.TIGHT:
@@ -1069,11 +1073,6 @@ public final class BowWalk {
             draft.onceTold[i] = true;
             step();
             return takeInto(draft.once, i, least, most) && take(';');
-        }
-
-        private boolean readLaw() {
-            return take(Token.RUB) && readAny(0) && draft.laws.endRow()
-                    && take(Token.PULL) && readAny(0) && draft.laws.endRow();
         }
 
         // -- an e; around: how many units ( e ) and ones behind not it is within --
